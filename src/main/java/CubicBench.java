@@ -718,7 +718,8 @@ public final class CubicBench {
             join(x, y, !y.below);
         }
 
-        private void join(Big x, Big y, boolean secondBelow) {
+        /** x, and y with the sign told here; both or either may be this number itself. */
+        void join(Big x, Big y, boolean secondBelow) {
             boolean sign = x.below;
             if (x.below == secondBelow) {
                 joinSizes(x, y);
@@ -728,7 +729,8 @@ public final class CubicBench {
                 sign = secondBelow;
                 takeSizes(y, x);
             }
-            below = sign && length > 0;
+            below = sign;
+            trim();
         }
 
         private void joinSizes(Big x, Big y) {
@@ -758,15 +760,15 @@ public final class CubicBench {
                 parts[i] = part + borrow * BASE;
             }
             length = i;
-            trim();
         }
 
         private void trim() {
-            int i = length;
-            for (; i > 0 && parts[i - 1] == 0; i--) {
-                below = below && i > 1;
+            int longest = length;
+            length = 0;
+            for (int i = longest; i > 0 && length == 0; i--) {
+                length = parts[i - 1] == 0 ? 0 : i;
             }
-            length = i;
+            below = below && length > 0;
         }
 
         /** Neither x nor y may be this number itself. */
@@ -1068,7 +1070,7 @@ public final class CubicBench {
 
         private void addScaled(Big target, Big number, long by, Big spare) {
             setScaled(spare, number, by);
-            target.setSum(target, spare);
+            target.join(target, spare, spare.below);
         }
 
         /** x of the sum is top / (run run), the slope is rise / (e1 e2 run). */
@@ -1214,11 +1216,11 @@ public final class CubicBench {
                 return 1;
             }
             boolean small = spot.e.isWithin(1) && spot.r.isWithin(WIDEST_X) && spot.t.isWithin(WIDEST_Y);
-            return small ? orderOf(spot.r.value(), spot.t.value(), a) : 0;
+            return small ? orderAt(spot.r.value(), spot.t.value(), a) : 0;
         }
 
         /** A slope that is not whole leads to an x that is not: then no multiple comes back. */
-        static int orderOf(long x, long y, long a) {
+        private static int orderAt(long x, long y, long a) {
             long nowX = x;
             long nowY = y;
             for (int n = 2; n <= MOST_ORDER; n++) {
@@ -1264,7 +1266,7 @@ public final class CubicBench {
 
         private void keepAt(long x, long square, long a) {
             long y = Big.rootOf(square);
-            if (y * y != square || orderOf(x, y, a) == 0) {
+            if (y * y != square || orderAt(x, y, a) == 0) {
                 return;
             }
             keep(x, -y);
@@ -1434,15 +1436,6 @@ public final class CubicBench {
             return codeOf(xOf(code), p - yOf(code));
         }
 
-        /** The slope of the line through two points whose sum is not FAR. */
-        static long slope(long first, long second, long a, long p) {
-            long x = xOf(first);
-            if (x == xOf(second)) {
-                return ratio(3 * x * x + a, 2 * yOf(first), p);
-            }
-            return ratio(yOf(second) - yOf(first), xOf(second) - x, p);
-        }
-
         static long sumOf(long first, long second, long a, long p) {
             if (first == FAR) {
                 return second;
@@ -1456,7 +1449,9 @@ public final class CubicBench {
             if (p <= 0 || sameX && (y == 0 || y != yOf(second))) {
                 return FAR;
             }
-            long slope = slope(first, second, a, p);
+            long above = sameX ? 3 * x * x + a : yOf(second) - y;
+            long below = sameX ? 2 * y : xOf(second) - x;
+            long slope = ratio(above, below, p);
             long newX = Math.floorMod(slope * slope - x - xOf(second), p);
             long newY = Math.floorMod(slope * (x - newX) - y, p);
             return codeOf(newX, newY);
@@ -1663,7 +1658,7 @@ public final class CubicBench {
             grouped = curve;
             longest = greatestOrder(curve);
             across = held / Math.max(1, longest);
-            firstMaker = first(curve);
+            firstMaker = firstOfLongest(curve);
             reachAll(curve);
             hasSecond = false;
             for (int i = 0; i < held && !hasSecond; i++) {
@@ -1674,16 +1669,13 @@ public final class CubicBench {
 
         /**
          * The least number of times that leads all points to FAR is the greatest ORDER. Those that
-         * any number of times leads there are all, or at most half of all.
+         * any number of times leads there are all, or at most half of all: so half is enough to try.
          */
         private int greatestOrder(Curve curve) {
             long most = 1;
-            int fit = 0;
-            for (int i = 0; i < held && most < held && 2 * fit <= held; i++) {
-                if (Rests.multiple(codes[i], most, curve.a, curve.p) == Rests.FAR) {
-                    fit++;
-                } else {
-                    fit = 0;
+            for (int i = 0; i < held && most < held && 2 * i <= held; i++) {
+                boolean mirrored = i > 0 && Rests.xOf(codes[i]) == Rests.xOf(codes[i - 1]);
+                if (!mirrored && Rests.multiple(codes[i], most, curve.a, curve.p) != Rests.FAR) {
                     long least = Rests.leastOf(codes[i], held, curve.a, curve.p);
                     most = Rests.commonMultiple(most, least);
                 }
@@ -1691,7 +1683,7 @@ public final class CubicBench {
             return (int) most;
         }
 
-        private long first(Curve curve) {
+        private long firstOfLongest(Curve curve) {
             for (int i = 0; i < held; i++) {
                 if (Rests.leastOf(codes[i], longest, curve.a, curve.p) == longest) {
                     return codes[i];
@@ -1773,10 +1765,19 @@ public final class CubicBench {
                 kinds[held] = ONE;
             } else if (first != Rests.FAR && second != Rests.FAR && sum != Rests.FAR) {
                 kinds[held] = SLANTED;
-                slopes[held] = Rests.slope(first, second, on.a, on.p);
+                slopes[held] = slope(first, second, on);
             }
             held++;
             return sum;
+        }
+
+        /** The slope of the line through two points whose sum is not FAR. */
+        private static long slope(long first, long second, Curve on) {
+            long x = Rests.xOf(first);
+            if (first == second) {
+                return Rests.ratio(3 * x * x + on.a, 2 * Rests.yOf(first), on.p);
+            }
+            return Rests.ratio(Rests.yOf(second) - Rests.yOf(first), Rests.xOf(second) - x, on.p);
         }
 
         /** f at a point; 0 if a function on the way is 0 there, or the point is FAR. */
@@ -1826,6 +1827,8 @@ public final class CubicBench {
         private final int[] roots;
         private int rootsHeld;
         private boolean rootsKnown;
+        private Curve of;
+        private int known;
         private int latest;
         private int p;
         int degree;
@@ -1844,17 +1847,22 @@ public final class CubicBench {
             if (n < 1 || n > MOST || curve.p < LEAST_PRIME) {
                 return;
             }
-            p = curve.p;
-            latest = n;
-            rootsKnown = false;
-            begin(curve.a, curve.b);
-            for (int k = 5; k <= n; k++) {
+            if (of != curve) {
+                of = curve;
+                p = curve.p;
+                begin(curve.a, curve.b);
+                known = 4;
+            }
+            for (int k = known + 1; k <= n; k++) {
                 if (k % 2 == 1) {
                     setOdd(k / 2);
                 } else {
                     setEven(k / 2);
                 }
+                known = k;
             }
+            latest = n;
+            rootsKnown = false;
             degree = degreeOf(rows[n]);
         }
 
@@ -1933,11 +1941,12 @@ public final class CubicBench {
         }
 
         private static int degreeOf(long[] row) {
-            int degree = row.length - 1;
-            for (; degree >= 0 && row[degree] == 0; degree--) {
-                continue;
+            for (int i = row.length - 1; i >= 0; i--) {
+                if (row[i] != 0) {
+                    return i;
+                }
             }
-            return degree;
+            return NONE;
         }
 
         int coefficientAt(int k) {
