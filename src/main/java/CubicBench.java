@@ -1600,7 +1600,7 @@ public final class CubicBench {
 
         private final int[] roots;
         private final long[] codes;
-        private final boolean[] reached;
+        private final byte[] reached;
         int held;
         private Curve listed;
         private Curve grouped;
@@ -1613,7 +1613,7 @@ public final class CubicBench {
         Listing() {
             roots = new int[LISTED_PRIME];
             codes = new long[ROOM];
-            reached = new boolean[LISTED_PRIME];
+            reached = new byte[LISTED_PRIME];
         }
 
         long codeAt(int k) {
@@ -1694,12 +1694,12 @@ public final class CubicBench {
 
         /** A point and its mirror are reached together, so x alone tells. */
         private void reachAll(Curve curve) {
-            Arrays.fill(reached, false);
+            Arrays.fill(reached, (byte) 0);
             long walked = firstMaker;
             for (int i = 0; i < longest && walked != Rests.FAR; i++) {
                 int x = (int) Rests.xOf(walked);
                 if (x >= 0 && x < reached.length) {
-                    reached[x] = true;
+                    reached[x] = 1;
                 }
                 walked = Rests.sumOf(walked, firstMaker, curve.a, curve.p);
             }
@@ -1709,7 +1709,7 @@ public final class CubicBench {
             long walked = code;
             for (int i = 1; i < across; i++) {
                 int x = (int) Rests.xOf(walked);
-                if (walked == Rests.FAR || x < 0 || x >= reached.length || reached[x]) {
+                if (walked == Rests.FAR || x < 0 || x >= reached.length || reached[x] != 0) {
                     return false;
                 }
                 walked = Rests.sumOf(walked, code, curve.a, curve.p);

@@ -3,6 +3,7 @@ public final class LeadsTest {
     public static void main(String[] args) {
         ledByTwoAndThree();
         notLed();
+        ledToTheEdge();
         throughByTwo();
         throughByThree();
         throughSpent();
@@ -75,6 +76,24 @@ public final class LeadsTest {
         Due.is(8, "none kept of those", () -> bench.counted(0));
         Due.index("none", () -> bench.led(10));
         Due.index("below", () -> bench.led(-1));
+    }
+
+    /** By (x, 0) b becomes -22 x x x - 8 a x: 10,000 itself, and 16 beyond it, above and below. */
+    private static void ledToTheEdge() {
+        CubicBench bench = withCubic(614, 1236);
+        bench.cubic(614, -1236);
+        bench.cubic(615, 1238);
+        bench.cubic(615, -1238);
+        bench.point(0, -2, 0);
+        bench.point(1, 2, 0);
+        bench.point(2, -2, 0);
+        bench.point(3, 2, 0);
+        Due.is(4, "b 10,000", () -> bench.led(0));
+        isCubic(bench, 4, -2516, 10000);
+        Due.is(5, "b -10,000", () -> bench.led(1));
+        isCubic(bench, 5, -2516, -10000);
+        Due.is(-2, "b 10,016", () -> bench.led(2));
+        Due.is(-2, "b -10,016", () -> bench.led(3));
     }
 
     private static void isPoint(CubicBench bench, int p, String x, String y) {
