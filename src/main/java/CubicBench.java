@@ -17,6 +17,7 @@ public final class CubicBench {
     private static final int PAGE_ROOM = 256;
     private static final int UNFIT = -1;
     private static final int SPENT = -2;
+    private static final int BEYOND = -2;
     private static final int APART = -3;
     private static final int SPENT_ON_THE_WAY = -4;
 
@@ -2002,7 +2003,7 @@ public final class CubicBench {
             a = reduced(from.a - 5 * v, p);
             b = reduced(from.b - 7 * (u + x * v), p);
             boolean beyond = from.isWhole() && (a < -WIDEST || a > WIDEST || b < -WIDEST || b > WIDEST);
-            return beyond || Curve.worthOf(a, b, p) == 0 ? SPENT : 0;
+            return beyond || Curve.worthOf(a, b, p) == 0 ? BEYOND : 0;
         }
 
         private static long reduced(long value, int p) {
