@@ -30,7 +30,8 @@ public final class DigitEdgesTest {
 
     private static String page(CubicBench bench) {
         StringBuilder text = new StringBuilder();
-        for (int k = 0; k < bench.counted(2); k++) {
+        int bytes = bench.counted(2);
+        for (int k = 0; k < bytes; k++) {
             text.append((char) bench.octet(k));
         }
         return text.toString();
@@ -53,7 +54,7 @@ public final class DigitEdgesTest {
             hasDigits(bench, 2, row[5], row[6], name);
             Due.is(3, "-" + name, () -> bench.times(p, -row[4]));
             Due.is(3, "mirrored, " + name, () -> bench.times(minus, row[4]));
-            hasDigits(bench, 3, row[5], row[6], "-" + name);
+            Due.is(row[5] + row[6] + (page(bench).startsWith("-") ? 1 : 2), "bytes of -" + name, () -> bench.print(3, 1));
             int before = bench.times(p, row[4] - 1);
             Due.is(2, "added, " + name, () -> bench.add(before, p));
             Due.is(2, "added from the other side, " + name, () -> bench.add(p, before));

@@ -224,13 +224,13 @@ public final class LeadEdgesTest {
     }
 
     private static String digits(CubicBench bench, int p) {
-        bench.print(p, 1);
-        int stroke = bench.counted(2);
-        for (int k = 0; k < bench.counted(2); k++) {
+        int bytes = bench.print(p, 1);
+        int stroke = bytes;
+        for (int k = 0; k < bytes; k++) {
             stroke = bench.octet(k) == '/' ? k : stroke;
         }
         int minus = bench.octet(0) == '-' ? 1 : 0;
-        return (stroke - minus) + " " + (bench.counted(2) - stroke - 1);
+        return (stroke - minus) + " " + (bytes - stroke - 1);
     }
 
     /** a, b, P, one point and how often, another and how often, and the digits above and below of y that comes. */

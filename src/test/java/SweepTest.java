@@ -15,7 +15,7 @@ public final class SweepTest {
         sweep.groupsAndPairs(60 * scale);
         sweep.polynomials(25 * scale);
         sweep.backs(60 * scale);
-        sweep.sums(40 * scale);
+        sweep.sums(60 * scale);
         sweep.leads(60 * scale);
         sweep.searches(20 * scale);
         sweep.orders(40 * scale);
@@ -134,11 +134,17 @@ public final class SweepTest {
         for (int i = 0; i < runs; i++) {
             renew();
             int p = i % 3 == 0 ? prime(5, 13) : prime(5, 1999);
-            int c = rests(wide(), wide(), p);
+            int a = wide();
+            int b = wide();
+            int c = rests(a, b, p);
             if (c < 0) {
                 continue;
             }
             for (int n = 1; n <= 11; n++) {
+                if (n == 7) {
+                    renew();
+                    rests(a, b, p);
+                }
                 String on = " of polynomial " + n + " of " + plain.cubics.get(c);
                 due("degree" + on, bench.polynomial(c, n), plain.polynomial(c, n));
                 for (int k = -1; k < 66; k++) {
@@ -179,10 +185,17 @@ public final class SweepTest {
         }
     }
 
-    private void samePrints(String on) {
-        for (int p = 0; p < bench.counted(1); p++) {
+    /** As many points as there are calls left for, the latest first. */
+    private void samePrints(String on, int calls) {
+        int left = calls;
+        for (int p = plain.counted(1) - 1; p >= 0; p--) {
             for (int what = 0; what < 2; what++) {
-                due("print(" + p + ", " + what + ")" + on, bench.print(p, what), plain.print(p, what));
+                int bytes = plain.print(p, what);
+                left -= plain.page.length() + 2;
+                if (left < 0) {
+                    return;
+                }
+                due("print(" + p + ", " + what + ")" + on, bench.print(p, what), bytes);
                 for (int k = 0; k <= plain.page.length(); k++) {
                     due("octet(" + k + ") of print(" + p + ", " + what + ")" + on, bench.octet(k), plain.octet(k));
                 }
@@ -208,21 +221,21 @@ public final class SweepTest {
             for (int s = -60; s < 100; s++) {
                 long value = (long) s * s * s + a * s + b;
                 long t = Math.round(Math.sqrt(Math.max(0, value)));
-                if (t * t == value && bench.counted(1) < 6) {
+                if (t * t == value && plain.counted(1) < 6) {
                     due("point" + on, bench.point(0, s, (int) t), plain.point(0, s, (int) t));
                 }
             }
-            for (int k = 0; k < 60; k++) {
-                int p = RANDOM.nextInt(bench.counted(1));
-                int q = RANDOM.nextInt(bench.counted(1));
+            for (int k = 0; k < 30; k++) {
+                int p = RANDOM.nextInt(plain.counted(1));
+                int q = RANDOM.nextInt(plain.counted(1));
                 int n = RANDOM.nextInt(41) - 20;
-                int before = bench.counted(1);
+                int before = plain.counted(1);
                 due("add(" + p + ", " + q + ")" + on, bench.add(p, q), plain.add(p, q));
                 due("times(" + p + ", " + n + ")" + on, bench.times(p, n), plain.times(p, n));
                 due("mirror(" + p + ")" + on, bench.mirror(p), plain.mirror(p));
                 due("points behind " + before + on, bench.counted(1), plain.counted(1));
             }
-            samePrints(on);
+            samePrints(on, 370);
         }
     }
 
@@ -248,18 +261,18 @@ public final class SweepTest {
                 bench.backAt(0, k);
                 plain.backAt(0, k);
             }
-            int fixed = bench.counted(1);
-            for (int s = -60; s < 200 && bench.counted(1) < fixed + 4; s++) {
+            int fixed = plain.counted(1);
+            for (int s = -60; s < 200 && plain.counted(1) < fixed + 4; s++) {
                 long value = (long) s * s * s + (long) a * s + b;
                 long t = Math.round(Math.sqrt(Math.max(0, value)));
                 if (t * t == value) {
                     due("point", bench.point(0, s, (int) t), plain.point(0, s, (int) t));
                 }
             }
-            int some = bench.counted(1);
+            int some = plain.counted(1);
             for (int k = 0; k < 40; k++) {
-                int p = RANDOM.nextInt(Math.min(some, bench.counted(1)));
-                int q = RANDOM.nextInt(bench.counted(1));
+                int p = RANDOM.nextInt(some);
+                int q = RANDOM.nextInt(plain.counted(1));
                 int n = RANDOM.nextInt(12) + 2;
                 String on = " of " + a + ", " + b;
                 due("led(" + p + ")" + on, bench.led(p), plain.led(p));
@@ -267,7 +280,7 @@ public final class SweepTest {
                 due("times(" + q + ", " + n + ")" + on, bench.times(q, n), plain.times(q, n));
                 due("cubics" + on, bench.counted(0), plain.counted(0));
             }
-            samePrints(" behind leads of " + a + ", " + b);
+            samePrints(" behind leads of " + a + ", " + b, 300);
             restLeads(a, b);
         }
     }
@@ -283,23 +296,28 @@ public final class SweepTest {
         for (int k = 0; k < 12; k++) {
             int x = RANDOM.nextInt(p);
             int y = k == 0 ? 0 : RANDOM.nextInt(p);
-            for (int tries = 0; tries < 3000 && bench.point(c, x, y) < 0; tries++) {
+            for (int tries = 0; tries < 3000 && !isOn(c, x, y); tries++) {
                 x = RANDOM.nextInt(p);
                 y = tries % 2 == 0 ? 0 : RANDOM.nextInt(p);
             }
             due("point by " + p, bench.point(c, x, y), plain.point(c, x, y));
         }
-        for (int q = bench.counted(1) - 1; q >= 0; q--) {
+        for (int q = plain.counted(1) - 1; q >= 0; q--) {
             int n = all % 3 == 0 ? all / 3 : all / 2;
             due("times by " + p, bench.times(q, n), plain.times(q, n));
         }
-        for (int k = 0; k < 60 && bench.counted(1) > 0; k++) {
-            int one = RANDOM.nextInt(bench.counted(1));
-            int two = RANDOM.nextInt(bench.counted(1));
+        for (int k = 0; k < 60 && plain.counted(1) > 0; k++) {
+            int one = RANDOM.nextInt(plain.counted(1));
+            int two = RANDOM.nextInt(plain.counted(1));
             String on = " of " + a + ", " + b + " by " + p;
             due("led(" + one + ")" + on, bench.led(one), plain.led(one));
             due("through(" + one + ", " + two + ")" + on, bench.through(one, two), plain.through(one, two));
         }
+    }
+
+    private boolean isOn(int c, long x, long y) {
+        Reference.Cubic on = plain.cubics.get(c);
+        return (y * y - x * x % on.p() * x - on.a() * x - on.b()) % on.p() == 0;
     }
 
     private void searches(int runs) {
