@@ -18,6 +18,7 @@ public final class BackEdgesTest {
         nothingInCommon();
         heightNoughtOrAbove();
         bySThenByR();
+        mostFound();
         searchIsOfWhole();
         foundPlaces();
         foundWhat();
@@ -58,11 +59,15 @@ public final class BackEdgesTest {
         isBack(10000, 0, new int[][] {{0, 0}});
         isBack(0, 9261, new int[][] {{-21, 0}});
         isBack(0, -9261, new int[][] {{21, 0}});
+        isBack(-28, 57, new int[][] {{3, 0}});
+        isBack(-676, 6765, new int[][] {{15, 0}});
     }
 
     private static void greatestOfBack() {
         isBack(0, 10000, new int[][] {{0, -100}, {0, 100}});
         isBack(9604, 0, new int[][] {{0, 0}, {98, -1372}, {98, 1372}});
+        isBack(-1964, 1232, new int[][] {{44, 0}, {106, -992}, {106, 992}});
+        isBack(-9152, -6144, firstOf(-9152, -6144));
         isBack(-432, 8208, new int[][] {{-12, -108}, {-12, 108}, {24, -108}, {24, 108}});
         isBack(-43, 166, new int[][] {{-5, -16}, {-5, 16}, {3, -8}, {3, 8}, {11, -32}, {11, 32}});
         isBack(-351, 1890, new int[][] {{-21, 0}, {-3, -54}, {-3, 54}, {6, 0}, {15, 0}, {33, -162}, {33, 162}});
@@ -244,6 +249,19 @@ public final class BackEdgesTest {
             row(bench, k, due[k][0], due[k][1], due[k][2]);
         }
         Due.index("behind the last one", () -> bench.found(due.length, 0));
+    }
+
+    /** As many as we know of: of all cubics with many whole points none has more. */
+    private static void mostFound() {
+        CubicBench bench = Made.whole(-532, 4420);
+        Due.is(66, "search", () -> bench.search(0, 400));
+        row(bench, 0, -26, 1, 26);
+        row(bench, 31, 346, 1, 6422);
+        row(bench, 32, -47, 2, 761);
+        row(bench, 63, 166, 11, 80882);
+        row(bench, 64, 376, 13, 125198);
+        row(bench, 65, -246, 17, 342934);
+        Due.index("behind the last one", () -> bench.found(66, 0));
     }
 
     /** "IllegalArgumentException: it is not WHOLE" */

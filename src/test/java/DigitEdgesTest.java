@@ -109,7 +109,7 @@ public final class DigitEdgesTest {
     /** By Mazur no other ORDER may be; of a and b up to 10,000 there is none of 8, 10 or 12. */
     private static void ordersOfWhole() {
         int[][] due = {{0, 1, -1, 0, 2}, {-10000, 0, 100, 0, 2}, {-10000, 0, -100, 0, 2}, {0, 1, 0, 1, 3}, {0, 10000, 0, 100, 3},
-            {0, 10000, 0, -100, 3}, {4, 0, 2, 4, 4}, {9604, 0, 98, 1372, 4}, {9604, 0, 98, -1372, 4}, {-432, 8208, 24, 108, 5},
+            {0, 10000, 0, -100, 3}, {4, 0, 2, 4, 4}, {-2, 1, 0, 1, 4}, {-11, 14, 1, -2, 4}, {9604, 0, 98, 1372, 4}, {9604, 0, 98, -1372, 4}, {-432, 8208, 24, 108, 5},
             {0, 1, 2, 3, 6}, {0, 1, 2, -3, 6}, {-43, 166, 3, 8, 7}, {-43, 166, -5, 16, 7}, {-219, 1654, 11, 24, 9}};
         for (int[] row : due) {
             CubicBench bench = Made.whole(row[0], row[1]);
@@ -126,7 +126,7 @@ public final class DigitEdgesTest {
     /** "of WHOLE ones 0, if there is none such" */
     private static void noOrder() {
         int[][] endless = {{0, -2, 3, 5}, {0, 17, -2, 3}, {0, 17, 5234, 378661}, {1, -10000, 10000, 1000000}, {-11, 15, 2, 1},
-            {4, -12, 2, 2}, {-10000, 10000, 0, 100}};
+            {4, -12, 2, 2}, {-10000, 10000, 0, 100}, {0, -999, 10, 1}, {-18, -819, 10, 1}};
         for (int[] row : endless) {
             CubicBench bench = Made.whole(row[0], row[1]);
             int p = bench.point(0, row[2], row[3]);
@@ -150,6 +150,10 @@ public final class DigitEdgesTest {
         Due.is(2, "its other point", () -> two.order(two.list(1, 1)));
         CubicBench fives = Made.rests(3, 2, 5);
         Due.is(5, "N is p itself", () -> fives.order(fives.list(1, 1)));
+        CubicBench doubled = Made.rests(11, -30, 1000003);
+        Due.is(1000306, "N is twice a prime", () -> doubled.count(1));
+        Due.is(2, "of one that comes back by 2", () -> doubled.order(doubled.point(1, 2, 0)));
+        Due.is(1, "of far", () -> doubled.order(doubled.far(1)));
         CubicBench great = Made.rests(7, 0, 1000003);
         Due.is(2, "by the greatest p", () -> great.order(great.point(1, 0, 0)));
         Due.is(1, "far by the greatest p", () -> great.order(great.far(1)));

@@ -5,6 +5,7 @@ public final class LeadEdgesTest {
     public static void main(String[] args) {
         ordersThatLead();
         ordersOfRestsThatLead();
+        everyLedOfSmallRests();
         widestLed();
         tooWideLed();
         restsAreNotTooWide();
@@ -67,6 +68,44 @@ public final class LeadEdgesTest {
         }
         Due.is(-1, "led by far", () -> threes.led(threes.list(1, 0)));
         Due.is(1, "by 0, 3 it is led to itself: 2 - 28 * 9 is 2 by 7", () -> threes.led(threes.point(1, 0, 3)));
+    }
+
+    /** Every point of ORDER 2 or 3 by the least primes leads: never is the other one's WORTH 0. */
+    private static void everyLedOfSmallRests() {
+        for (int p : new int[] {5, 7, 11, 13}) {
+            for (int a = 0; a < p; a++) {
+                for (int b = 0; b < p; b++) {
+                    if ((4 * a * a * a + 27 * b * b) % p != 0) {
+                        everyLed(a, b, p);
+                    }
+                }
+            }
+        }
+    }
+
+    private static void everyLed(int a, int b, int p) {
+        CubicBench bench = new CubicBench();
+        int c = bench.rest(bench.cubic(a, b), p);
+        for (int x = 0; x < p; x++) {
+            for (int y = 0; y < p; y++) {
+                if ((y * y - x * x * x - a * x - b) % p != 0) {
+                    continue;
+                }
+                int point = bench.point(c, x, y);
+                int order = bench.order(point);
+                int g = 3 * x * x + a;
+                int v = order == 2 ? g : 2 * g;
+                int u = order == 2 ? 0 : 4 * y * y;
+                String name = "led by " + x + ", " + y + " of " + a + ", " + b + " by " + p;
+                if (order != 2 && order != 3) {
+                    Due.is(-1, name, () -> bench.led(point));
+                } else {
+                    int led = bench.led(point);
+                    Due.is(1, name, () -> led >= 0 ? 1 : 0);
+                    isCubic(bench, led, Math.floorMod(a - 5 * v, p), Math.floorMod(b - 7 * (u + x * v), p), p);
+                }
+            }
+        }
     }
 
     /** a, b, x, y; the other one's a, b, each at 10,000 or as near as any comes to it. */

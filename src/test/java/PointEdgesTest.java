@@ -202,9 +202,14 @@ public final class PointEdgesTest {
         int three = bench.point(0, 0, 1);
         Due.is(bench.far(0), "order 2", () -> bench.add(two, two));
         Due.is(bench.point(0, 0, -1), "order 3", () -> bench.add(three, three));
+        int six = bench.point(0, 2, 3);
+        Due.is(two, "order 6 and 3", () -> bench.add(six, three));
+        Due.is(two, "order 3 and 6", () -> bench.add(three, six));
+        Due.is(two, "both mirrored", () -> bench.add(bench.mirror(six), bench.mirror(three)));
         bench.cubic(4, 0);
         int four = bench.point(1, 2, 4);
         Due.is(bench.point(1, 0, 0), "order 4", () -> bench.add(four, four));
+        Due.is(bench.point(1, 0, 0), "order 4, mirrored", () -> bench.add(bench.mirror(four), bench.mirror(four)));
         bench.rest(0, 7);
         int restTwo = bench.point(2, 3, 0);
         int restThree = bench.point(2, 0, 6);

@@ -17,11 +17,13 @@ public final class RestEdgesTest {
         groupOfOneMaker();
         groupOfTwoMakers();
         groupByTheGreatestListed();
+        groupsOfOneObject();
         leastAndGreatestN();
         multiplesOfP();
         timesThatAreNotFar();
         notOfOneCubic();
         pairOfFarAndOfTheSame();
+        farOrTheSameWithoutShift();
         pairWithoutShift();
         pairsThatAreLess();
         Due.end();
@@ -237,6 +239,42 @@ public final class RestEdgesTest {
         Due.is(plainCount(1, 1, 1999), "n m", () -> great.group(1, 0) * great.group(1, 1));
     }
 
+    /** GROUP and LIST of one cubic behind those of others are what they are in a new object. */
+    private static void groupsOfOneObject() {
+        CubicBench bench = Made.whole(0, 1);
+        int[][] rows = {{0, 1, 7}, {0, 2, 7}, {0, 6, 7}, {1, 1, 7}, {0, 1, 31}, {-1, 0, 31}, {0, 1, 61}, {-1, 0, 61}, {2, 0, 5}, {1, 0, 5}, {4, 0, 5}};
+        int[] numbers = new int[rows.length];
+        for (int i = 0; i < rows.length; i++) {
+            numbers[i] = bench.rest(bench.cubic(rows[i][0], rows[i][1]), rows[i][2]);
+        }
+        for (int round = 0; round < 2; round++) {
+            for (int i = 0; i < rows.length; i++) {
+                CubicBench fresh = Made.rests(rows[i][0], rows[i][1], rows[i][2]);
+                int c = numbers[i];
+                String name = rows[i][0] + ", " + rows[i][1] + " by " + rows[i][2];
+                for (int what = 0; what < 2; what++) {
+                    int which = what;
+                    Due.is(fresh.group(1, what), "group " + what + " of " + name, () -> bench.group(c, which));
+                }
+                for (int what = 2; what < 4; what++) {
+                    sameSpot(fresh, fresh.group(1, what), bench, bench.group(c, what), "MAKER " + what + " of " + name);
+                }
+                sameSpot(fresh, fresh.list(1, 1), bench, bench.list(c, 1), "list of " + name);
+            }
+        }
+    }
+
+    private static void sameSpot(CubicBench fresh, int due, CubicBench bench, int got, String name) {
+        for (int what = 0; what < 2; what++) {
+            int which = what;
+            Due.is(fresh.print(due, what), name + ": bytes", () -> bench.print(got, which));
+            for (int k = 0; k < fresh.counted(2) && !(fresh.told(due, 1) == 1); k++) {
+                int at = k;
+                Due.is(fresh.octet(k), name + ": byte " + k, () -> bench.octet(at));
+            }
+        }
+    }
+
     /** "n (2 to 1,000,000 ..)": by 97 all points but FAR of 2, 14 have ORDER 101, and 1,000,001 is 101 * 9,901. */
     private static void leastAndGreatestN() {
         CubicBench bench = Made.rests(2, 14, 97);
@@ -340,6 +378,19 @@ public final class RestEdgesTest {
             Due.is(1, k + " and far", () -> bench.pair(p, far, 6));
             Due.is(1, k + " and itself", () -> bench.pair(p, p, 6));
             Due.is(1, k + " and itself by 999,996", () -> bench.pair(p, p, 999996));
+        }
+    }
+
+    /** With FAR, or of the same, it is 1 even where no S would do. */
+    private static void farOrTheSameWithoutShift() {
+        for (int[] row : new int[][] {{2, 0, 5, 2}, {4, 2, 5, 3}, {0, 4, 7, 3}}) {
+            CubicBench bench = Made.rests(row[0], row[1], row[2]);
+            int far = bench.list(1, 0);
+            int p = bench.list(1, 1);
+            Due.is(1, "far and p where N is " + row[3], () -> bench.pair(far, p, row[3]));
+            Due.is(1, "p and far where N is " + row[3], () -> bench.pair(p, far, row[3]));
+            Due.is(1, "p and p where N is " + row[3], () -> bench.pair(p, p, row[3]));
+            Due.is(1, "far and far where N is " + row[3], () -> bench.pair(far, far, row[3]));
         }
     }
 
