@@ -41,6 +41,7 @@ public final class FullTest {
         otherAnswersOfFullCubics();
         otherAnswersOfFullPoints();
         answersWithoutNewOnes();
+        stateBehindTooMany();
         Due.end();
     }
 
@@ -259,5 +260,35 @@ public final class FullTest {
         Due.is(2, "print", () -> bench.print(ORDER_TWO, 0));
         Due.is(CUBICS, "40", () -> bench.counted(0));
         Due.is(POINTS, "400", () -> bench.counted(1));
+    }
+
+    /** The PAGE, the latest SEARCH and the latest POLYNOMIAL outlast every call that is refused for want of room. */
+    private static void stateBehindTooMany() {
+        CubicBench bench = furnished();
+        bench.search(LINE, 129);
+        bench.polynomial(RESTS, 3);
+        bench.print(ENDLESS, 1);
+        Made.fillPoints(bench, POINTS);
+        Made.fillCubics(bench, CUBICS);
+        for (Map.Entry<String, Gives> call : givingCubics().entrySet()) {
+            Due.state(call.getKey(), () -> call.getValue().run(bench));
+        }
+        Due.state("far", () -> bench.far(WHOLE));
+        Due.state("point", () -> bench.point(WHOLE, 0, -1));
+        Due.state("add", () -> bench.add(ENDLESS, ENDLESS));
+        Due.state("mirror", () -> bench.mirror(ENDLESS));
+        Due.state("times", () -> bench.times(ENDLESS, 5));
+        Due.state("backAt", () -> bench.backAt(WHOLE, 4));
+        Due.state("list", () -> bench.list(RESTS, 11));
+        Due.state("group", () -> bench.group(RESTS, 3));
+        Due.text("5", "the page stays", bench);
+        Due.is(129, "the search stays", () -> bench.found(1, 0));
+        Due.index("and has no more", () -> bench.found(2, 0));
+        Due.is(3, "the polynomial stays", () -> bench.coefficient(4));
+        Due.is(0, "and its root", () -> bench.root(0));
+        Due.is(CUBICS, "40", () -> bench.counted(0));
+        Due.is(POINTS, "400", () -> bench.counted(1));
+        Due.is(9000 + CUBICS - 1, "a of the last cubic", () -> bench.about(CUBICS - 1, 0));
+        Due.is(2, "order of a point", () -> bench.order(REST_TWO));
     }
 }
