@@ -251,7 +251,7 @@ public final class BackEdgesTest {
         Due.index("behind the last one", () -> bench.found(due.length, 0));
     }
 
-    /** As many as we know of: of all cubics with many whole points none has more. */
+    /** More than 64: the most that a search of cubics with 14 or more whole points came upon. */
     private static void mostFound() {
         CubicBench bench = Made.whole(-532, 4420);
         Due.is(66, "search", () -> bench.search(0, 400));

@@ -106,7 +106,7 @@ public final class DigitEdgesTest {
         Due.is(0, "a long one has no order", () -> bench.order(longest));
     }
 
-    /** By Mazur no other ORDER may be; of a and b up to 10,000 there is none of 8, 10 or 12. */
+    /** By Mazur 8, 10 and 12 might be too, but a search found none of them with a and b up to 10,000. */
     private static void ordersOfWhole() {
         int[][] due = {{0, 1, -1, 0, 2}, {-10000, 0, 100, 0, 2}, {-10000, 0, -100, 0, 2}, {0, 1, 0, 1, 3}, {0, 10000, 0, 100, 3},
             {0, 10000, 0, -100, 3}, {4, 0, 2, 4, 4}, {-2, 1, 0, 1, 4}, {-11, 14, 1, -2, 4}, {9604, 0, 98, 1372, 4}, {9604, 0, 98, -1372, 4}, {-432, 8208, 24, 108, 5},
